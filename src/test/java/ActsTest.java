@@ -261,6 +261,10 @@ public final class ActsTest {
         due.due("a body", x.shift(3, 9, 0, 0, 1), -12);
         due.due("to a body", x.shift(0, 9, 3, 0, 1), -12);
         due.due("a body to itself", x.shift(3, 0, 3, 0, 0), -12);
+        x.row(3, 2, 4);
+        x.keep(3, 0);
+        due.due("to a body where a row was", x.shift(0, 0, 3, 0, 1), -12);
+        due.due("from a body where a row was", x.shift(3, 0, 0, 0, 1), -12);
         x.row(4, 3, 5);
         due.due("unlike sorts", x.shift(0, 9, 4, 0, 1), -12);
         Due.fill(x, 5, 4, 1, 0, 1);

@@ -47,10 +47,21 @@ public final class DeedsTest {
         due.due("what comes is not salted", x.of(2, 3), 0);
         due.due("an empty column", x.salt(4), 0);
         due.due("counts, too", x.led(2), 2);
+        due.due("column 1", x.salt(1), 1);
+        due.due("SALT of 5", x.of(5, 3), 1);
+        HotStack y = Due.stack(null, 0, 0, 0, 0, 0, 150, 500);
+        due.due("a full column", y.salt(0), 5);
+        due.due("what lies beside it is not salted", y.of(5, 3), 0);
+        due.due("column 5", y.salt(5), 1);
+        due.due("SALT of 25", y.of(25, 3), 1);
+        y.mend(5, 1, 70);
+        due.due("a full column turned", y.turned(0), 5);
+        due.due("what lies beside it is not", y.of(5, 1), 70);
+        due.due("nor is its DAMP", y.of(5, 0), 5);
         due.due("again", x.salt(0), 3);
         due.due("-1", x.salt(-1), BAD);
         due.due("6", x.salt(6), BAD);
-        due.due("BAD does not count", x.led(2), 3);
+        due.due("BAD does not count", x.led(2), 4);
     }
 
     private static void read() {
@@ -209,6 +220,34 @@ public final class DeedsTest {
         }
         due.due("all again", x.of(0, 1), 84);
         due.due("none any more", x.redo(), STATE);
+        manyChanges();
+    }
+
+    /** More changes than are kept, each of another number: all that are kept go back and forth one by one. */
+    private static void manyChanges() {
+        HotStack x = Due.stack(null, 50, 150, 250, 350, 450, 550);
+        for (int i = 0; i < 47; i++) {
+            due.due("mend", x.mend(5 * (i % 6), i % 5 == 3 ? 1 : 2, i + 1), beforeOf(i));
+        }
+        for (int i = 46; i >= 7; i--) {
+            due.due("it is", x.of(5 * (i % 6), i % 5 == 3 ? 1 : 2), i + 1);
+            due.due("undo", x.undo(), i - 7);
+            due.due("it was", x.of(5 * (i % 6), i % 5 == 3 ? 1 : 2), beforeOf(i));
+        }
+        for (int i = 7; i <= 46; i++) {
+            due.due("redo", x.redo(), 46 - i);
+            due.due("it is again", x.of(5 * (i % 6), i % 5 == 3 ? 1 : 2), i + 1);
+        }
+    }
+
+    /** What the i-th change of those many found: what the latest one of the same number told. */
+    private static int beforeOf(int i) {
+        for (int j = i - 6; j >= 0; j -= 6) {
+            if ((j % 5 == 3) == (i % 5 == 3)) {
+                return j + 1;
+            }
+        }
+        return i % 5 == 3 ? 20 : 99;
     }
 
     private static void redo() {

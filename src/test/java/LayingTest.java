@@ -60,6 +60,13 @@ public final class LayingTest {
         Due.bytes(full, 0, 1, 1);
         due.due("column 1 is full", full.lay(0, 8, -1), NOT);
         due.due("column 1 is full", full.lay(0, 8, 0), NOT);
+        HotStack dry = Due.stack("d-9", 0, 100);
+        Due.bytes(dry, 0, 0, 9, 0);
+        lays(dry, 8, 20, 0, 1, 2);
+        HotStack cold = new HotStack();
+        Due.tell(cold, "-20");
+        Due.bytes(cold, 0, 3, 3);
+        lays(cold, 1, 0, 0, 1);
         HotStack salty = Due.stack("s*9+d", 0);
         salty.mend(0, 3, 1);
         Due.bytes(salty, 0, 3);
@@ -125,6 +132,7 @@ public final class LayingTest {
         due.due("behind 4: 87", y.sell(40, 0, 0), 4);
         due.due("99 less 4, 4, 4, 4 by 9", y.sell(40, 0, 1), 9);
         due.due("2 for each", y.sell(40, 2, 1), 1);
+        due.due("the 4th day of 4", y.sell(4, 0, 0), 4);
         due.due("3 for each: none is worth it", y.sell(40, 3, 1), 0);
         due.due("the 3rd day is too early", y.sell(3, 0, 1), 0);
         due.due("n -1", x.sell(-1, 0, 0), VOID);
@@ -276,6 +284,14 @@ public final class LayingTest {
         due.due("a lone cell is the top", Due.stack("l?0;d", 20).byTurns(22, 0), 26);
         HotStack w = Due.stack("d", 90);
         due.due("DAMP is 9 at most", w.byTurns(21, 0), 29);
+        HotStack v = Due.stack("l?0;d", 0, 100, 200, 300, 400, 500);
+        v.mend(25, 1, 60);
+        due.due("column 5 is turned", v.byTurns(10, 1), 5);
+        due.due("column 5 is wetted", Due.stack("l?0;d", 0, 100, 200, 300, 400, 550).byTurns(21, 0), 26);
+        v.mend(20, 1, 99);
+        v.mend(0, 1, 99);
+        due.due("99 stays", v.byTurns(10, 0), 99);
+        due.due("nothing does it", v.byTurns(10, 1), 6);
         due.due("nt 9", x.byTurns(9, 0), BAD);
         due.due("nt 40", x.byTurns(40, 0), BAD);
         due.due("nt -11", x.byTurns(-11, 0), BAD);

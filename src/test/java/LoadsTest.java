@@ -13,6 +13,7 @@ public final class LoadsTest {
         faults();
         laws();
         values();
+        unlikeCells();
         plainLaw();
         due.finish("LoadsTest");
     }
@@ -109,6 +110,8 @@ public final class LoadsTest {
         due.due("LOAD of 10", x.of(10, 4), 4);
         due.due("fewer than asked", x.loads(0, 3, 20), 2);
         due.due("n less than there", x.loads(0, 0, 2), 2);
+        due.due("no more than n came", x.count(0), 7);
+        due.due("carted", x.led(0), 7);
         due.due("within a three", x.loads(0, 7, 1), 0);
         due.due("a whole last three", x.loads(0, 6, 1), 1);
         due.due("from within, COLUMN 5, DAMP 0, LOAD 9", x.loads(0, 3, 1), 1);
@@ -313,6 +316,10 @@ public final class LoadsTest {
         due.due("heats 7", x.heats(0), 7);
         due.due("a faulty text", Due.tell(x, "8+"), -102);
         due.due("leaves the law", x.heats(0), 7);
+        due.due("a text faulty at once", Due.tell(x, "+8"), -100);
+        due.due("leaves the law, too", x.heats(0), 7);
+        due.due("another one", Due.tell(x, "x9"), -100);
+        due.due("leaves the law, too", x.heats(0), 7);
         due.due("an empty text", x.law(), -100);
         due.due("leaves the law too", x.heats(0), 7);
         due.due("another", Due.tell(x, "9"), 1);
@@ -322,11 +329,17 @@ public final class LoadsTest {
         x.back();
         due.due("no image keeps the law", x.heats(0), 3);
         due.due("nor is it undone", x.undo(), -5);
+        HotStack y = Due.stack("d", 50);
+        due.due("by DAMP", y.heats(0), 5);
+        due.due("faulty at once", Due.tell(y, "+8"), -100);
+        y.mend(0, 0, 3);
+        due.due("by DAMP still", y.heats(0), 3);
     }
 
     private static void value(String law, int want) {
         // Cell 6: d 7, h 30, a 2 (above; right), s 1, n (21 + 40) / 2 = 30, l 1.
-        HotStack x = Due.stack(law, 10, 45, 170, 175);
+        HotStack x = Due.stack(null, 10, 45, 170, 175);
+        due.due("law " + law, Due.tell(x, law), 1);
         x.cart(0, 11);
         x.mend(6, 1, 30);
         x.mend(6, 3, 1);
@@ -395,6 +408,12 @@ public final class LoadsTest {
         value("9999*9999*9999%10", wrapped(9999) % 10);
         value("5000*10*5000*10<0", 1);
         value("-5000*10*5000*10>0", 1);
+        value("1+2*-d", -13);
+        value("1+2*!0", 3);
+        value("1-(2-(3-(4-(5-d))))", -4);
+        value("9-(8-(7-(6-(5-(4-(3-1))))))", 5);
+        value("0|1&2<3+4*(0|5&6<7+8*(0|1&0<1+2*-(3-4)))", 1);
+        value("9-2*(1+3*(2+0*(7+-(5-1))))", -5);
         value("0?5", 0);
         value("1?5", 5);
         value("-1?5", 5);
@@ -409,6 +428,35 @@ public final class LoadsTest {
         due.due("no such cell", Due.stack("d", 0).heats(1), VOID);
         due.due("no such cell", Due.stack("d", 0).heats(-1), VOID);
         due.due("no such cell", Due.stack("d", 0).heats(30), VOID);
+    }
+
+    /** One object, many cells and days: what it heated by once is not taken for another's. */
+    private static void unlikeCells() {
+        due.promise(8);
+        HotStack x = Due.stack("(d*7+h*3+a*11+s*17+n*5+l*13)%41-20", 0, 10, 120, 130, 140, 350);
+        int[] cells = {0, 1, 5, 6, 7, 15};
+        int[] airs = {1, 1, 1, 1, 3, 3};
+        for (int round = 0; round < 9; round++) {
+            for (int cell : cells) {
+                x.mend(cell, 0, (round * 4 + cell) % 10);
+                x.mend(cell, 1, (round * 13 + cell * 7) % 100);
+                x.mend(cell, 3, (round + cell) % 2);
+            }
+            for (int i = 0; i < cells.length; i++) {
+                int c = cells[i];
+                int[] beside = c == 0 ? new int[] {1, 5} : c == 1 ? new int[] {0, 6} : c == 5 ? new int[] {0, 6}
+                    : c == 6 ? new int[] {5, 7, 1} : c == 7 ? new int[] {6} : new int[] {};
+                int sum = 0;
+                for (int b : beside) {
+                    sum += (round * 13 + b * 7) % 100;
+                }
+                int n = beside.length == 0 ? 20 : sum / beside.length;
+                int air = airs[i] + (c == 1 ? 1 : 0);
+                int want = (round * 4 + c) % 10 * 7 + (round * 13 + c * 7) % 100 * 3 + air * 11
+                    + (round + c) % 2 * 17 + n * 5 + c % 5 * 13;
+                due.due("cell " + c + " in round " + round, x.heats(c), want % 41 - 20);
+            }
+        }
     }
 
     private static int wrapped(int first) {

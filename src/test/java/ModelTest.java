@@ -222,19 +222,19 @@ public final class ModelTest {
         }
     }
 
-/** Mostly a row of DAMPS ahead of lay(), sometimes one that ends early. */
-private static void loadsFor(int shelf) {
-    int n = random.nextInt(9), most = random.nextInt(12);
-    if (random.nextInt(4) > 0) {
-        is(n, "row", new int[] {shelf}, x.row(shelf, 0, n), m.row(shelf, 0, n));
-        for (int k = 0; k < n; k++) {
-            int damp = random.nextInt(20) == 0 ? -1 : upTo(most);
-            is(k, "put", new int[] {shelf, damp}, x.put(shelf, k, damp), m.put(shelf, k, damp));
+    /** Mostly a row of DAMPS ahead of lay(), sometimes one that ends early. */
+    private static void loadsFor(int shelf) {
+        int n = random.nextInt(9), most = random.nextInt(12);
+        if (random.nextInt(4) > 0) {
+            is(n, "row", new int[] {shelf}, x.row(shelf, 0, n), m.row(shelf, 0, n));
+            for (int k = 0; k < n; k++) {
+                int damp = random.nextInt(20) == 0 ? -1 : upTo(most);
+                is(k, "put", new int[] {shelf, damp}, x.put(shelf, k, damp), m.put(shelf, k, damp));
+            }
         }
     }
-}
 
-/** A book as a rod would have it, some days not read, one of them perhaps wrong; and what it fits. */
+    /** A book as a rod would have it, some days not read, one of them perhaps wrong; and what it fits. */
     private static void readBook(int i) {
         int n = random.nextInt(50), rod = random.nextInt(30), told = random.nextInt(30), wrong = random.nextInt(100);
         m.row(0, 0, n);
@@ -276,11 +276,11 @@ private static void loadsFor(int shelf) {
             case "body": a[0] = about(0, 7); is(i, c, a, x.body(a[0]), m.body(a[0])); break;
             case "act":
                 a[0] = about(0, 9); a[1] = about(0, 3); a[2] = random.nextBoolean() ? upTo(9) : random.nextInt();
-is(i, c, a, x.act(a[0], a[1], a[2]), m.act(a[0], a[1], a[2]));
-for (int k = -1; k < 26; k++) {
-    is(i, "trace behind it", new int[] {k}, x.trace(k), m.trace(k));
-}
-is(i, "count behind it", a, x.count(5), m.count(5)); break;
+                is(i, c, a, x.act(a[0], a[1], a[2]), m.act(a[0], a[1], a[2]));
+                for (int k = -1; k < 26; k++) {
+                    is(i, "trace behind it", new int[] {k}, x.trace(k), m.trace(k));
+                }
+                is(i, "count behind it", a, x.count(5), m.count(5)); break;
             case "trace": a[0] = about(0, 8); is(i, c, a, x.trace(a[0]), m.trace(a[0])); break;
             case "keep": a[0] = shelf(); a[1] = about(-1, 4); is(i, c, a, x.keep(a[0], a[1]), m.keep(a[0], a[1])); break;
             case "row":
