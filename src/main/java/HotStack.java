@@ -888,7 +888,7 @@ public final class HotStack {
     private static final class Law {
         static final int D = 0, H = 1, A = 2, S = 3, N = 4, L = 5;
         private static final int MOST_GAIN = 20;
-        private static final int PILE = 64, NAMES = 8, KNOWN = 4096;
+        private static final int PILE = 64, NAMES = 8, KNOWN = 2048;
 
         private int lines;
         private final int[] steps = new int[Tape.LONGEST];
@@ -922,7 +922,7 @@ public final class HotStack {
                 return held(2 * damp - air - 4 * salt + (near - heat) / 4);
             }
             int question = 1 + ((((damp * 100 + heat) * 100 + near) * 6 + air) * 2 + salt) * LAYERS + layer;
-            int slot = (question * 0x9E3779B1 >>> 20) % KNOWN;
+            int slot = (question * 0x9E3779B1 >>> 21) % KNOWN;
             if (known[slot] >> 6 != question) {
                 named[D] = damp;
                 named[H] = heat;
