@@ -174,7 +174,7 @@ public final class HotStack {
     // ---- laying, worth, books
 
     public int lay(int shelf, int n, int k) {
-        if (!isShelf(shelf) || !within(n, 0, 8) || !within(k, -1, COLUMNS - 1)) {
+        if (!isShelf(shelf) || !within(n, 0, 8) || k < -1) {
             return BAD;
         }
         int refusal = shelves[shelf].refusalOfBytes();
@@ -364,11 +364,10 @@ public final class HotStack {
     }
 
     public long element(int shelf, int i) {
-        if (!isShelf(shelf)) {
+        if (!isShelf(shelf) || shelves[shelf].refusalOfPlace(i) != 0) {
             return Long.MIN_VALUE;
         }
-        int refusal = shelves[shelf].refusalOfPlace(i);
-        return refusal == 0 ? shelves[shelf].elements[i] : refusal;
+        return shelves[shelf].elements[i];
     }
 
     public int shift(int shelf, int i, int other, int j, int n) {

@@ -138,11 +138,12 @@ public final class ActsTest {
         due.due("it is there", x.taken(0, 0), 4);
         due.due("a row instead", x.row(0, 0, 1), 1);
         due.due("a body instead", x.keep(0, 0), 1);
-        due.due("no row any more", x.element(0, 0), -12);
+        due.due("no row any more", x.put(0, 0, 1), -12);
+        due.due("no element any more", x.element(0, 0), Long.MIN_VALUE);
         due.due("BAD", x.keep(0, 9), BAD);
         due.due("changes nothing", x.taken(0, 4), 4);
         due.due("nothing again", x.keep(0, -1), 1);
-        due.due("is there", x.element(0, 0), -11);
+        due.due("is there", x.put(0, 0, 1), -11);
     }
 
     private static void row() {
@@ -158,13 +159,13 @@ public final class ActsTest {
         due.due("sort 5 and n -1", x.row(0, 5, -1), BAD);
         due.due("shelf 6 and n -1", x.row(6, 0, -1), BAD);
         due.due("n most", x.row(0, 0, Integer.MAX_VALUE), BAD);
-        due.due("nothing came", x.element(0, 0), -11);
+        due.due("nothing came", x.put(0, 0, 1), -11);
         for (int sort = 0; sort <= 4; sort++) {
             due.due("row", x.row(sort, sort, 60), 1);
             due.due("0 at first", x.element(sort, 59), 0);
-            due.due("60 elements", x.element(sort, 60), -13);
+            due.due("60 elements", x.put(sort, 60, 1), -13);
             due.due("an empty row", x.row(5, sort, 0), 1);
-            due.due("no elements", x.element(5, 0), -13);
+            due.due("no elements", x.put(5, 0, 1), -13);
         }
         x.put(0, 5, 7);
         due.due("n -1", x.row(0, 0, -1), -14);
@@ -204,23 +205,29 @@ public final class ActsTest {
         HotStack x = new HotStack();
         due.due("shelf -1", x.element(-1, 0), Long.MIN_VALUE);
         due.due("shelf 6", x.element(6, 0), Long.MIN_VALUE);
-        due.due("nothing", x.element(0, -1), -11);
+        due.due("nothing", x.element(0, 0), Long.MIN_VALUE);
+        due.due("nothing, place -1", x.element(0, -1), Long.MIN_VALUE);
         x.body(0);
         x.keep(0, 0);
-        due.due("a body", x.element(0, -1), -12);
+        due.due("a body", x.element(0, 0), Long.MIN_VALUE);
+        due.due("a body, place -1", x.element(0, -1), Long.MIN_VALUE);
         Due.fill(x, 0, 3, 5, -6, Long.MIN_VALUE);
         due.due("0", x.element(0, 0), 5);
         due.due("1", x.element(0, 1), -6);
         due.due("2", x.element(0, 2), Long.MIN_VALUE);
-        due.due("place -1", x.element(0, -1), -13);
-        due.due("place 3", x.element(0, 3), -13);
+        due.due("place -1", x.element(0, -1), Long.MIN_VALUE);
+        due.due("place 3", x.element(0, 3), Long.MIN_VALUE);
+        due.due("place least", x.element(0, Integer.MIN_VALUE), Long.MIN_VALUE);
+        due.due("place most", x.element(0, Integer.MAX_VALUE), Long.MIN_VALUE);
+        Due.fill(x, 0, 3, 7);
+        due.due("beyond a shorter row", x.element(0, 1), Long.MIN_VALUE);
     }
 
     private static void rowIs(HotStack x, int shelf, long... want) {
         for (int i = 0; i < want.length; i++) {
             due.due("element " + i, x.element(shelf, i), want[i]);
         }
-        due.due("no more", x.element(shelf, want.length), -13);
+        due.due("no more", x.element(shelf, want.length), Long.MIN_VALUE);
     }
 
     private static void shift() {

@@ -21,7 +21,7 @@ public final class LayingTest {
         for (int k = 0; k < places.length; k++) {
             due.due("lay " + k, x.lay(0, n, k), places[k]);
         }
-        for (int k = places.length; k <= 5; k++) {
+        for (int k = places.length; k <= 8; k++) {
             due.due("not as many: " + k, x.lay(0, n, k), NOT);
         }
     }
@@ -79,12 +79,16 @@ public final class LayingTest {
         HotStack x = Due.stack("d", 0);
         x.body(0);
         due.due("nothing", x.lay(0, 0, -1), -11);
+        due.due("nothing, k 6", x.lay(0, 0, 6), -11);
+        due.due("nothing, k -2", x.lay(0, 0, -2), BAD);
+        due.due("nothing, n 9, k 6", x.lay(0, 9, 6), BAD);
         x.keep(0, 0);
         due.due("a body", x.lay(0, 0, -1), -12);
         for (int sort = 1; sort <= 4; sort++) {
             x.row(0, sort, 3);
             due.due("sort " + sort, x.lay(0, 0, -1), -12);
             due.due("sort " + sort + ", k 5", x.lay(0, 0, 5), -12);
+            due.due("sort " + sort + ", k 6", x.lay(0, 0, 6), -12);
             due.due("sort " + sort + ", n 9", x.lay(0, 9, 0), BAD);
         }
         Due.bytes(x, 0, 1, 2, 3);
@@ -94,7 +98,9 @@ public final class LayingTest {
         due.due("n 9", x.lay(0, 9, 0), BAD);
         due.due("n 8", x.lay(0, 8, 2), 2);
         due.due("k -2", x.lay(0, 0, -2), BAD);
-        due.due("k 6: no such COLUMN", x.lay(0, 0, 6), BAD);
+        due.due("k 6: not as many", x.lay(0, 0, 6), NOT);
+        due.due("k most: not as many", x.lay(0, 0, Integer.MAX_VALUE), NOT);
+        due.due("k least", x.lay(0, 0, Integer.MIN_VALUE), BAD);
         due.due("k 3: not as many", x.lay(0, 0, 3), NOT);
     }
 

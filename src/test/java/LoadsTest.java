@@ -26,7 +26,8 @@ public final class LoadsTest {
             due.due("of HIGH " + i, x.of(i, 8), 0);
             due.due("of CHIMNEY " + i, x.of(i, 5), 0);
             due.due("led " + i, x.led(i), i == 5 ? NOT : 0);
-            due.due("element " + i, x.element(i, 0), -11);
+            due.due("element " + i, x.element(i, 0), Long.MIN_VALUE);
+            due.due("put " + i, x.put(i, 0, 1), -11);
         }
         due.due("GLOWS", x.of(0, 6), 90);
         due.due("DAY", x.of(0, 7), 0);

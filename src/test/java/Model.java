@@ -681,7 +681,7 @@ final class Model {
     }
 
     int lay(int shelf, int n, int k) {
-        if (!in(shelf, 0, 5) || !in(n, 0, 8) || !in(k, -1, 5)) {
+        if (!in(shelf, 0, 5) || !in(n, 0, 8) || k < -1) {
             return BAD;
         }
         if (bytesRefused(shelf) != 0) {
@@ -1183,7 +1183,7 @@ final class Model {
         if (!in(shelf, 0, 5)) {
             return Long.MIN_VALUE;
         }
-        return placeRefused(shelf, i) != 0 ? placeRefused(shelf, i) : ((Row) shelves[shelf]).v[i];
+        return placeRefused(shelf, i) != 0 ? Long.MIN_VALUE : ((Row) shelves[shelf]).v[i];
     }
 
     int shift(int shelf, int i, int other, int j, int n) {

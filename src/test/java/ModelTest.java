@@ -204,7 +204,7 @@ public final class ModelTest {
         int[] a = new int[5];
         switch (c) {
             case "lay":
-                a[0] = shelf(); a[1] = about(0, 8); a[2] = about(-1, 5);
+                a[0] = shelf(); a[1] = about(0, 8); a[2] = about(-1, 7);
                 loadsFor(a[0]);
                 is(i, c, a, x.lay(a[0], a[1], a[2]), m.lay(a[0], a[1], a[2])); break;
             case "sell":
