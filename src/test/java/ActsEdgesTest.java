@@ -285,8 +285,8 @@ public final class ActsEdgesTest {
 
     static void rowSizes() {
         due.sentence(38, "of 0 .. 60 elements, 0 at first (false)");
-        HotStack x = new HotStack();
         for (int sort = 0; sort <= 4; sort++) {
+            HotStack x = new HotStack();
             for (int n : new int[] {61, 62, 120, 256, 65536, Integer.MAX_VALUE}) {
                 due.due("n " + n, x.row(0, sort, n), BAD);
             }
@@ -305,8 +305,8 @@ public final class ActsEdgesTest {
             x.row(1, sort, 3);
             x.row(1, sort, 6);
             due.due("0 at first behind a shorter one", x.element(1, 5), 0);
+            due.due("nothing came on 0", x.put(0, 0, 1), -11);
         }
-        due.due("nothing came on 0", x.put(0, 0, 1), -11);
     }
 
     static void rowBelowZero() {
@@ -616,10 +616,7 @@ public final class ActsEdgesTest {
         x.mend(25, 1, 29);
         due.due("29 of 30", x.count(1), 2);
         HotStack y = new HotStack();
-        y.image();
-        y.cart(0, 0);
-        y.mend(0, 1, 99);
-        y.back();
+        Due.hide(y, 0);
         due.due("what lies there no more", y.count(1), 0);
     }
 

@@ -170,6 +170,8 @@ public final class DaysEdgesTest {
         due.due("of 0: 99, held", x.later(1, 0, 0), 40);
         x.back();
         due.due("what lies there no more heats nothing", x.later(1, 0, 0), 20);
+        Due.hide(x, 1);
+        due.due("what lies there no more heats nothing", x.later(1, 0, 0), 20);
     }
 
     // ---- promise 10: stack
@@ -214,6 +216,7 @@ public final class DaysEdgesTest {
         due.due("all are 0", x.stack(0, 0), 5);
         due.due("HEAT 0", x.stack(0, 1), 0);
         HotStack y = new HotStack();
+        Due.hide(y, 3);
         due.due("none is there", y.stack(0, 0), NOT);
         due.due("none is there", y.stack(40, 0), NOT);
         due.due("its HEAT", y.stack(0, 1), NOT);
@@ -239,11 +242,15 @@ public final class DaysEdgesTest {
         due.due("29 is not 30", x.stack(0, 2), 2);
         due.due("behind 1 day", x.stack(1, 2), 3);
         due.due("nothing GLOWS where nothing is", new HotStack().stack(40, 2), 0);
+        HotStack y = new HotStack();
+        Due.hide(y, 0);
+        due.due("what lies there no more", y.stack(0, 2), 0);
     }
 
     static void stackGood() {
         due.sentence(10, "GOOD of all CELLS together");
         HotStack x = Due.stack("0");
+        Due.hide(x, 0);
         due.due("none", x.stack(0, 3), 0);
         due.due("none", x.stack(40, 3), 0);
         for (int i = 0; i < 30; i++) {
@@ -399,12 +406,9 @@ public final class DaysEdgesTest {
         due.due("it is there, however cool", x.rods(20), 1);
         due.due("in 5", x.rodsAt(20), 1L << 5);
         HotStack y = Due.stack(null, 0, 200);
-        y.image();
-        y.cart(0, 0);
-        y.cart(0, 0);
-        y.mend(2, 1, 99);
-        y.back();
+        Due.hide(y, 1);
         due.due("what lies there no more is not hot", y.rods(21), 0);
+        due.due("nor does a rod lie there", y.rods(20), 2);
     }
 
     // ---- promise 13: rodsAt

@@ -4,6 +4,8 @@ import java.lang.reflect.Method;
 import java.nio.file.Files;
 import java.nio.file.Path;
 import java.util.Arrays;
+import java.util.Set;
+import java.util.TreeSet;
 
 /** What the project's tests share: counting answers that are not as due, and making stacks in few words. */
 final class Due {
@@ -13,6 +15,7 @@ final class Due {
     private int asked;
     private int wrong;
     private String promise = "";
+    private final Set<String> failedParts = new TreeSet<>();
     private int shown;
     private String shownOf = "";
     private int sentences;
@@ -78,6 +81,7 @@ final class Due {
         asked++;
         if (got != want) {
             wrong++;
+            failedParts.add(promise);
             shown = promise.equals(shownOf) ? shown + 1 : 1;
             shownOf = promise;
             if (shown <= MOST_SHOWN) {
@@ -88,6 +92,11 @@ final class Due {
 
     void holds(String what, boolean is) {
         due(what, is ? 1 : 0, 1);
+    }
+
+    /** The sentences, or parts, that had an answer not as due. */
+    Set<String> failedParts() {
+        return failedParts;
     }
 
     boolean failed() {
@@ -127,6 +136,26 @@ final class Due {
             x.cart(load / 100, load % 100);
         }
         return x;
+    }
+
+    /** A CELL of HEAT 99 and GOOD 7, salted, that is there no more: changes done again unseen. */
+    static void hide(HotStack x, int column) {
+        hide(x, column, 99, 7);
+    }
+
+    static void hide(HotStack x, int column, int heat, int good) {
+        x.image();
+        int cell = x.cart(column, 99);
+        x.mend(cell, 1, heat);
+        x.mend(cell, 2, good);
+        x.mend(cell, 3, 1);
+        x.back();
+        for (int i = 0; i < 3; i++) {
+            x.undo();
+        }
+        for (int i = 0; i < 3; i++) {
+            x.redo();
+        }
     }
 
     /** A stack with something of all: cells, changes, one undone, an image, two bytes, a law, bodies, a trace, shelves. */

@@ -245,6 +245,15 @@ public final class LayingEdgesTest {
         due.due("30 of 11", y.worth(), 330);
     }
 
+    static void worthOfCellsThatAreThere() {
+        due.sentence(18, "it is there, if the LAYER is below HIGH");
+        HotStack x = Due.stack(null, 0);
+        Due.hide(x, 1, 50, 90);
+        due.due("one of 99 by 9", x.worth(), 11);
+        x.cart(0, 0);
+        due.due("two", x.worth(), 22);
+    }
+
     static void worthGlows() {
         due.sentence(18, "0 of one that GLOWS");
         HotStack x = alone(null, 0, 89, 99);
@@ -378,11 +387,8 @@ public final class LayingEdgesTest {
         due.due("50 and 50 of 9", x.whose(), 9);
         x.mend(5, 2, 50);
         due.due("50 and 49 of 9 are like 99 of 5", x.whose(), 5);
-        HotStack y = new HotStack();
-        y.image();
-        y.cart(0, 4);
-        y.mend(0, 2, 0);
-        y.back();
+        HotStack y = Due.stack(null, 205);
+        Due.hide(y, 0);
         due.due("what lies there no more", y.whose(), NOT);
     }
 
@@ -705,6 +711,19 @@ public final class LayingEdgesTest {
         due.due("nothing is as good", y.byTurns(11, 1), 6);
     }
 
+    static void byTurnsBest() {
+        due.sentence(23, "the farmer wants the hottest least hot, the weather most: that, if both do their best");
+        HotStack x = Due.stack("d", 50, 140);
+        x.mend(0, 1, 40);
+        due.due("0 is turned, the weather wets either: 20 and 6 and 6", x.byTurns(22, 0), 32);
+        due.due("0 first", x.byTurns(22, 1), 0);
+        due.due("what was wetted is turned: 20 and 5 and 5", x.byTurns(32, 0), 30);
+        HotStack y = Due.stack("d", 80, 190);
+        due.due("0 or 1 may be 9: nothing is as good", y.byTurns(21, 1), 6);
+        due.due("29", y.byTurns(21, 0), 29);
+        due.due("what is 9 is turned to 8", y.byTurns(31, 0), 28);
+    }
+
     static void byTurnsTurned() {
         due.sentence(23, "the farmer turns a COLUMN");
         HotStack x = alone("d", 5, 60, 99);
@@ -839,6 +858,8 @@ public final class LayingEdgesTest {
         due.due("90 behind 5", x.drawn(1, 300500, 0), 30);
         due.due("89 behind 6", x.drawn(1, 300600, 0), 0);
         due.due("GOOD: less 4 and 4 in each", x.drawn(1, 300100, 1), 30 * 190);
+        x.mend(0, 6, 30);
+        due.due("two CELLS GLOW in each", x.drawn(1, 300100, 0), 30);
         due.due("no cells", new HotStack().drawn(1, 303012, 1), 0);
         due.due("no cells", new HotStack().drawn(1, 303012, 0), 0);
         HotStack y = Due.stack("0", 0, 0, 0, 0, 0, 100);

@@ -193,32 +193,28 @@ public final class LoadsEdgesTest {
         due.due("all are there", x.count(0), 30);
     }
 
-    /** A place in which all numbers were others, and in which nothing lies any more. */
-    private static HotStack aUsedPlace() {
+    /** A CELL that came where all numbers of the place were others. */
+    private static HotStack onAUsedPlace() {
         HotStack x = new HotStack();
-        x.image();
-        x.cart(2, 0);
-        x.mend(10, 1, 50);
-        x.mend(10, 2, 7);
-        x.mend(10, 3, 1);
-        x.back();
-        x.cart(2, 99);
+        Due.hide(x, 2);
+        due.due("nothing is there", x.of(10, 1), BAD);
+        due.due("it comes", x.cart(2, 35), 10);
         return x;
     }
 
     static void heatAsItComes() {
         due.sentence(2, "HEAT (0 .. 99; 20 as it comes)");
-        due.due("HEAT", aUsedPlace().of(10, 1), 20);
+        due.due("HEAT", onAUsedPlace().of(10, 1), 20);
     }
 
     static void goodAsItComes() {
         due.sentence(2, "GOOD (0 .. 99; 99 as it comes)");
-        due.due("GOOD", aUsedPlace().of(10, 2), 99);
+        due.due("GOOD", onAUsedPlace().of(10, 2), 99);
     }
 
     static void saltAsItComes() {
         due.sentence(2, "SALT (0, 1; 0 as it comes)");
-        due.due("SALT", aUsedPlace().of(10, 3), 0);
+        due.due("SALT", onAUsedPlace().of(10, 3), 0);
         HotStack x = new HotStack();
         x.salt(0);
         x.cart(0, 0);
@@ -627,13 +623,15 @@ public final class LoadsEdgesTest {
         due.sentence(6, "BAD, FULL (120)");
         HotStack x = new HotStack();
         for (int i = 1; i <= 120; i++) {
-            due.due("feed", x.feed(i % 2 == 1 ? 'l' : i == 120 ? '1' : '+'), i == 0 ? 0 : i);
+            due.due("feed", x.feed(i % 2 == 0 || i == 1 ? '1' : '-'), i);
         }
-        due.due("the 121st", x.feed('l'), FULL);
+        due.due("the 121st", x.feed('+'), FULL);
         due.due("the 121st, no byte", x.feed(256), BAD);
         due.due("the 121st, no byte", x.feed(-1), BAD);
         due.due("bytes", x.count(2), 120);
-        due.due("l, + .. l and 1: no TEXT goes on with the 1", x.law(), -219);
+        due.due("11 less 59 times 1, and nothing behind it", x.law(), 1);
+        x.cart(0, 0);
+        due.due("it counts", x.heats(0), -20);
         due.due("it is empty", x.count(2), 0);
         due.due("a byte comes again", x.feed('l'), 1);
     }
