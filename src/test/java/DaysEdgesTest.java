@@ -320,6 +320,18 @@ public final class DaysEdgesTest {
         due.due("no cell 0", new HotStack().first(0, 0), BAD);
     }
 
+    static void firstOfACell() {
+        due.sentence(11, "a CELL is first so hot (0 .. 99, told) or more; of all");
+        HotStack x = Due.stack("d", 10, 20, 130);
+        due.due("0, by 1 a day", x.first(0, 23), 3);
+        due.due("1, by 2 a day", x.first(1, 23), 2);
+        due.due("5, by 3 a day", x.first(5, 23), 1);
+        due.due("any", x.first(-1, 23), 1);
+        x.mend(5, 1, 99);
+        due.due("0", x.first(0, 23), 3);
+        due.due("any", x.first(-1, 23), 0);
+    }
+
     // ---- promise 12: rods
 
     private static HotStack square() {
@@ -366,6 +378,16 @@ public final class DaysEdgesTest {
         due.due("4 and 5 are not beside each other", y.rods(80), 2);
         hot(y, 9);
         due.due("4 and 9 are, 5 is not", y.rods(80), 2);
+        for (int[] pair : new int[][] {{0, 2}, {2, 4}, {25, 27}, {27, 29}, {0, 10}, {15, 25}, {1, 5}, {0, 6}, {24, 28}}) {
+            HotStack w = square();
+            hot(w, pair);
+            due.due("one rod beside " + pair[0] + " and " + pair[1], w.rods(80), 1);
+        }
+        for (int[] pair : new int[][] {{0, 3}, {0, 15}, {4, 5}, {24, 25}, {0, 11}, {0, 7}}) {
+            HotStack w = square();
+            hot(w, pair);
+            due.due("none beside " + pair[0] + " and " + pair[1], w.rods(80), 2);
+        }
         HotStack z = square();
         hot(z, 7, 11, 12, 13, 17);
         due.due("12 sees all five", z.rods(80), 1);
@@ -439,6 +461,12 @@ public final class DaysEdgesTest {
         due.due("a lone 25", y.rodsAt(80), 1L << 25);
         hot(y, 4);
         due.due("and 3, beside 4", y.rodsAt(80), 1L << 25 | 1L << 3);
+        int[][] least = {{0, 0}, {1, 0}, {5, 0}, {6, 1}, {4, 3}, {9, 4}, {25, 20}, {29, 24}, {12, 7}};
+        for (int[] l : least) {
+            HotStack v = square();
+            hot(v, l[0]);
+            due.due("the least that sees " + l[0], v.rodsAt(80), 1L << l[1]);
+        }
         HotStack z = Due.stack(null, 0, 0, 100, 100, 200, 200);
         hot(z, 0, 10, 11);
         due.due("5, 6 are 96, less than 0, 10: 1025", z.rodsAt(80), 96);
@@ -468,6 +496,19 @@ public final class DaysEdgesTest {
         for (int k = 0; k <= 3; k++) {
             due.due("that", x.turn(k, 0, 0), k == 0 ? 50 : 20);
             due.due("unlike ones, 5 among them", x.turn(k, 0, 1), with5[k]);
+        }
+    }
+
+    static void turnMust() {
+        due.sentence(14, "TURN: k (0 .. 3) unlike COLUMNS turned now (HEAT of their CELLS 20");
+        HotStack x = Due.stack("0", 0, 100, 200, 300, 400, 500);
+        for (int column = 0; column <= 5; column++) {
+            x.mend(5 * column, 1, 10);
+        }
+        int[] which = {0, 1, 3, 7};
+        for (int k = 0; k <= 3; k++) {
+            due.due("turned, it is warmer", x.turn(k, 0, 0), k == 0 ? 10 : 20);
+            due.due("which", x.turn(k, 0, 1), which[k]);
         }
     }
 
@@ -642,6 +683,18 @@ public final class DaysEdgesTest {
         due.due("30, 40 behind it", y.latest(), 14);
         y.mend(0, 6, 40);
         due.due("30, 40 behind it: 40 GLOWS", y.latest(), NOT);
+    }
+
+    static void latestOfAll() {
+        due.sentence(16, "all COLUMNS must be turned at the latest, so that none GLOWS");
+        HotStack x = Due.stack("d=5?5;-1", 0, 550);
+        x.mend(0, 6, 45);
+        due.due("0 is cool, 25 is 45 behind 5 days", x.latest(), 4);
+        x.cart(2, 50);
+        x.mend(10, 1, 25);
+        due.due("10 is 45 behind 4", x.latest(), 3);
+        x.mend(0, 1, 45);
+        due.due("0 GLOWS now", x.latest(), NOT);
     }
 
     static void latestAtMostTwenty() {

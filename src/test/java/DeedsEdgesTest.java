@@ -513,6 +513,24 @@ public final class DeedsEdgesTest {
         due.due("the last again", x.of(5, 1), 62);
     }
 
+    static void undoFortyOfManyNumbers() {
+        due.sentence(32, "the latest first, and DONE AGAIN (as long as no other came behind); 40 at most are kept");
+        HotStack x = Due.stack(null, 50, 150, 250, 350, 450, 550);
+        int[] was = new int[48];
+        for (int i = 0; i < 48; i++) {
+            was[i] = x.mend(5 * (i % 6), i % 5 == 3 ? 1 : 2, i + 1);
+        }
+        for (int i = 47; i >= 8; i--) {
+            due.due("undo", x.undo(), i - 8);
+            due.due("as it was", x.of(5 * (i % 6), i % 5 == 3 ? 1 : 2), was[i]);
+        }
+        due.due("no more", x.undo(), STATE);
+        for (int i = 8; i <= 47; i++) {
+            due.due("redo", x.redo(), 47 - i);
+            due.due("as it became", x.of(5 * (i % 6), i % 5 == 3 ? 1 : 2), i + 1);
+        }
+    }
+
     static void undoAllNumbers() {
         due.sentence(32, "CHANGES (all numbers of mend(); telling the same number is none; those of a CELL are of its place, "
             + "whatever lies there by then, seen or not)");

@@ -108,6 +108,24 @@ public final class LayingEdgesTest {
         lays(z, 3, 99, 0, 1, 2);
     }
 
+    static void layInAnyOrder() {
+        due.sentence(17, "are carted, one onto each of COLUMNS 0, 1 .. in an order");
+        // Upon each COLUMN a load must be drier than upon the one ahead: they fit in no order but the very last.
+        HotStack x = Due.stack("a>3?d*9;l=4?(d>1)*9;l=3?(d>3)*9;l=2?(d>5)*9;l=1?(d>7)*9;0");
+        for (int column = 1; column <= 5; column++) {
+            for (int layer = 0; layer < column && layer < 4; layer++) {
+                x.cart(column, 0);
+            }
+        }
+        x.mend(5, 5, 1);
+        Due.bytes(x, 0, 0, 1, 3, 5, 7, 9);
+        lays(x, 1, 20, 5, 4, 3, 2, 1, 0);
+        Due.bytes(x, 0, 9, 7, 5, 3, 1, 0);
+        lays(x, 1, 20, 0, 1, 2, 3, 4, 5);
+        Due.bytes(x, 0, 7, 9, 5, 3, 0, 1);
+        lays(x, 1, 20, 1, 0, 2, 3, 5, 4);
+    }
+
     static void layFull() {
         due.sentence(17, "NOT: one of these COLUMNS is full");
         HotStack x = Due.stack("d", 100, 100, 100, 100, 100);
@@ -648,6 +666,10 @@ public final class LayingEdgesTest {
             due.due("t " + t, x.byTurns(10 + t, 0), 20 + t);
             due.due("n 3, t " + t, x.byTurns(30 + t, 0), 20 + t);
         }
+        HotStack y = Due.stack("d", 0);
+        due.due("9 days behind one deed", y.byTurns(19, 0), 20);
+        due.due("9 days behind two: DAMP 2", y.byTurns(29, 0), 38);
+        due.due("9 days behind three: DAMP 1", y.byTurns(39, 0), 29);
     }
 
     static void byTurnsWet() {
